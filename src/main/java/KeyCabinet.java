@@ -18,14 +18,13 @@ public final class KeyCabinet {
     /** Rows for suggest: by key, the copy of it that would be lent, and the doors that it opens. */
     private final int[] copyToLend;
     private final int[] doorsOpened;
-    private int day;
+    private int day = 0;
 
     public KeyCabinet() {
         plan = new Plan();
         ledger = new Ledger();
         copyToLend = new int[Plan.MOST_KEYS];
         doorsOpened = new int[Plan.MOST_KEYS];
-        day = 0;
     }
 
     // ---- the plan
@@ -447,7 +446,6 @@ public final class KeyCabinet {
 
         int takeDoor(int rights) {
             int door = doors;
-            pinsOf[door] = 0;
             doors++;
             giveRights(door, rights);
             return door;
@@ -641,7 +639,6 @@ public final class KeyCabinet {
             int copy = copies;
             keyOf[copy] = key;
             stateOf[copy] = IN_CABINET;
-            timesLent[copy] = 0;
             copies++;
             return copy;
         }

@@ -23,6 +23,7 @@ final class CopyTests {
         checks.test("promise 26: overdue", CopyTests::overdue);
         checks.test("promise 27: holderAt", CopyTests::holderAt);
         checks.test("promise 27: holderAt, several loans", CopyTests::holderAtLoans);
+        checks.test("promise 27: holderAt, all loans of the last copy", CopyTests::holderAtLast);
     }
 
     /** Keys 0 and 1, a door for each, and three copies: of key 0, of key 1, of key 0. */
@@ -284,5 +285,23 @@ final class CopyTests {
         c.same("holderAt(0, 13), lost", cabinet.holderAt(0, 13), -1);
         cabinet.find(0);
         c.same("holderAt(0, 13), found", cabinet.holderAt(0, 13), -1);
+    }
+
+    private static void holderAtLast(Checks c) {
+        KeyCabinet cabinet = PlanTests.withKeys("00000");
+        for (int copy = 0; copy < 24; copy++) {
+            cabinet.cut(0);
+        }
+        for (int time = 0; time < 9; time++) {
+            cabinet.lend(23, time % 8, 1);
+            cabinet.pass(2);
+            cabinet.giveBack(23);
+            cabinet.pass(1);
+        }
+        for (int day = 0; day < 27; day++) {
+            int due = day % 3 == 2 ? -1 : day / 3 % 8;
+            c.same("holderAt(23, " + day + ")", cabinet.holderAt(23, day), due);
+        }
+        c.same("holderAt(23, 27)", cabinet.holderAt(23, 27), -1);
     }
 }

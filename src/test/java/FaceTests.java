@@ -1,13 +1,17 @@
+import java.io.IOException;
 import java.lang.reflect.Constructor;
 import java.lang.reflect.Executable;
 import java.lang.reflect.Field;
 import java.lang.reflect.Method;
 import java.lang.reflect.Modifier;
+import java.nio.file.Files;
+import java.nio.file.Path;
 import java.util.ArrayList;
 import java.util.List;
 import java.util.TreeSet;
+import java.util.regex.Pattern;
 
-/** The public face of the document, and what LANGUAGE.md asks of members (its rules 1, 5 and 11). */
+/** The public face of the document, and what LANGUAGE.md asks of members (its rules 1, 5, 6 and 11). */
 final class FaceTests {
     private static final String INDEX = " throws java.lang.IndexOutOfBoundsException";
     private static final String BAD = "java.lang.IllegalArgumentException";
@@ -55,6 +59,7 @@ final class FaceTests {
         checks.test("language: no other member is to be seen", FaceTests::otherMembers);
         checks.test("language: static fields are constants", FaceTests::staticFields);
         checks.test("language: parameters and fields are few", FaceTests::sizes);
+        checks.test("language: nothing that it leaves out", FaceTests::words);
     }
 
     private static void constructor(Checks c) {
@@ -123,6 +128,29 @@ final class FaceTests {
             for (Executable one : all) {
                 c.same(one + " has at most 7 parameters", one.getParameterCount() <= 7, true);
             }
+        }
+    }
+
+    /** What the class does without altogether; LANGUAGE.md leaves most of it out. */
+    private static void words(Checks c) {
+        String code = source()
+                .replaceAll("(?s)/\\*.*?\\*/", " ")
+                .replaceAll("//[^\n]*", " ")
+                .replaceAll("\"[^\"\n]*\"", " ");
+        c.same("the source was found", code.contains("public final class KeyCabinet"), true);
+        List<String> left = List.of("\\b(package|import|try|catch|finally|synchronized|assert)\\b",
+                "->", "::", "@", "\\binstanceof\\b", "\\b(System|Object|String|Iterator)\\b",
+                "\\bstatic\\s*\\{", "\\b(equals|hashCode|toString)\\b", "_VALUE\\b");
+        for (String part : left) {
+            c.same(part + " is in the source", Pattern.compile(part).matcher(code).find(), false);
+        }
+    }
+
+    private static String source() {
+        try {
+            return Files.readString(Path.of("src/main/java/KeyCabinet.java"));
+        } catch (IOException e) {
+            return "";
         }
     }
 

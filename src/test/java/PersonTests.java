@@ -17,6 +17,7 @@ final class PersonTests {
         checks.test("promise 30: suggest takes copies to be had", PersonTests::suggestHad);
         checks.test("promise 31: exposure", PersonTests::exposure);
         checks.test("promise 32: digest", PersonTests::digest);
+        checks.test("promises 1 to 32: a full house", PersonTests::fullHouse);
     }
 
     /** Keys 00000, 11111, 22222, 33333, and a door for each of these sets of them. */
@@ -143,6 +144,10 @@ final class PersonTests {
     private static void exposure(Checks c) {
         KeyCabinet doorless = PlanTests.withKeys("00000");
         c.same("exposure() without doors", doorless.exposure(), 0.0);
+        KeyCabinet one = withDoors(0b0001);
+        one.cut(0);
+        one.lose(0);
+        c.same("exposure() with one door, at risk", one.exposure(), 1.0);
         KeyCabinet cabinet = withDoors(0b0001, 0b0110, 0b0010);
         cutAll(cabinet, 0, 1, 2);
         c.same("exposure()", cabinet.exposure(), 0.0);
@@ -173,6 +178,39 @@ final class PersonTests {
                 2, 1, 0, -1, -1, 0, 0, 1, 6, 7, 1);
         c.same("digest()", cabinet.digest(), due);
         c.same("digest() again", cabinet.digest(), due);
+    }
+
+    /** As many keys, doors and copies as there can be: door d is for key d, copy n is of key n % 8. */
+    private static void fullHouse(Checks c) {
+        KeyCabinet cabinet = new KeyCabinet();
+        for (int key = 0; key < 8; key++) {
+            cabinet.addKey(key);
+            cabinet.addDoor(1 << key);
+        }
+        for (int copy = 0; copy < 24; copy++) {
+            cabinet.cut(copy % 8);
+        }
+        c.same("strays()", cabinet.strays(), 0);
+        c.same("work()", cabinet.work(), 40);
+        c.same("openers(7)", cabinet.openers(7), 128);
+        c.same("doors(7)", cabinet.doors(7), 128);
+        c.same("suggest(7, 255)", cabinet.suggest(7, 255), 255);
+        for (int copy = 0; copy < 24; copy++) {
+            c.same("lend", cabinet.lend(copy, copy % 8, 1), 1);
+        }
+        c.same("suggest(7, 255)", cabinet.suggest(7, 255), -1);
+        cabinet.pass(2);
+        c.same("overdue()", cabinet.overdue(), 0xffffff);
+        c.same("reach(7)", cabinet.reach(7), 128);
+        c.same("exposure()", cabinet.exposure(), 1.0);
+        c.same("lose(23)", cabinet.lose(23), 128);
+        c.same("risk()", cabinet.risk(), 128);
+        c.same("replace(7)", cabinet.replace(7), PlanTests.number("00023"));
+        c.same("work() after replace(7)", cabinet.work(), 42);
+        c.same("overdue() after replace(7)", cabinet.overdue(), 0x7f7f7f);
+        c.same("exposure() after replace(7)", cabinet.exposure(), 0.875);
+        c.same("copy(23, 1)", cabinet.copy(23, 1), 3);
+        c.same("holderAt(23, 1)", cabinet.holderAt(23, 1), 7);
     }
 
     private static long sum(long... numbers) {

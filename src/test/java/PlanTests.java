@@ -29,6 +29,8 @@ final class PlanTests {
         checks.test("promise 16: replace takes the fewest strays", PlanTests::replaceStrays);
         checks.test("promise 16: replace counts its own strays", PlanTests::replaceOwnStrays);
         checks.test("promise 16: replace takes the least work", PlanTests::replaceWork);
+        checks.test("promise 16: replace adds the work at all doors", PlanTests::replaceAllWork);
+        checks.test("promise 16: replace puts strays before work", PlanTests::replaceOrder);
         checks.test("promise 16: replace finds none", PlanTests::replaceNone);
         checks.test("promise 16: replace makes copies void", PlanTests::replaceCopies);
     }
@@ -319,6 +321,27 @@ final class PlanTests {
         c.same("work()", cabinet.work(), 15);
         c.same("replace(0)", cabinet.replace(0), number("00003"));
         c.same("work() then", cabinet.work(), 18);
+    }
+
+    /** A pin that goes out costs one; that others stay costs nothing. */
+    private static void replaceAllWork(Checks c) {
+        KeyCabinet cabinet = withKeys("00000", "33333");
+        cabinet.addDoor(0b11);
+        c.same("replace(1)", cabinet.replace(1), number("03333"));
+        c.same("work()", cabinet.work(), 11);
+        KeyCabinet two = withKeys("33333", "00000");
+        two.addDoor(0b11);
+        two.addDoor(0b10);
+        c.same("replace(1) with two doors", two.replace(1), number("00003"));
+        c.same("work() with two doors", two.work(), 18);
+    }
+
+    /** Many codes make no stray; those of the least work of all come later, but make some. */
+    private static void replaceOrder(Checks c) {
+        KeyCabinet cabinet = withKeys("33333", "22222", "32222", "23222");
+        cabinet.addDoor(0b0011);
+        c.same("replace(0)", cabinet.replace(0), number("22333"));
+        c.same("work()", cabinet.work(), 12);
     }
 
     private static void replaceNone(Checks c) {
