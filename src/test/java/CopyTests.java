@@ -1,4 +1,4 @@
-/** Promises 17 to 27: copies and days. */
+/** Promises 17 to 25: copies and days. */
 final class CopyTests {
     private static final Class<IllegalArgumentException> BAD = IllegalArgumentException.class;
     private static final Class<IllegalStateException> STATE = IllegalStateException.class;
@@ -20,15 +20,11 @@ final class CopyTests {
         checks.test("promise 23: today", CopyTests::today);
         checks.test("promise 24: copyCount", CopyTests::copyCount);
         checks.test("promise 25: copy", CopyTests::copy);
-        checks.test("promise 26: overdue", CopyTests::overdue);
-        checks.test("promise 27: holderAt", CopyTests::holderAt);
-        checks.test("promise 27: holderAt, several loans", CopyTests::holderAtLoans);
-        checks.test("promise 27: holderAt, all loans of the last copy", CopyTests::holderAtLast);
     }
 
     /** Keys 0 and 1, a door for each, and three copies: of key 0, of key 1, of key 0. */
-    private static KeyCabinet withCopies() {
-        KeyCabinet cabinet = PlanTests.withKeys("00000", "11111");
+    static KeyCabinet withCopies() {
+        KeyCabinet cabinet = Houses.withKeys("00000", "11111");
         cabinet.addDoor(0b01);
         cabinet.addDoor(0b10);
         cabinet.cut(0);
@@ -40,14 +36,14 @@ final class CopyTests {
     /** Copy 2 has become void; copies 0 and 1 are of other keys. */
     private static KeyCabinet withVoid() {
         KeyCabinet cabinet = withCopies();
-        cabinet.addKey(PlanTests.number("22222"));
+        cabinet.addKey(Houses.number("22222"));
         cabinet.cut(2);
         cabinet.replace(2);
         return cabinet;
     }
 
     private static void cut(Checks c) {
-        KeyCabinet cabinet = PlanTests.withKeys("00000", "11111");
+        KeyCabinet cabinet = Houses.withKeys("00000", "11111");
         c.same("cut(1)", cabinet.cut(1), 0);
         c.same("cut(0)", cabinet.cut(0), 1);
         c.same("copy(0, 0)", cabinet.copy(0, 0), 1);
@@ -175,7 +171,7 @@ final class CopyTests {
     }
 
     private static void passLimit(Checks c) {
-        KeyCabinet cabinet = PlanTests.withKeys("00000");
+        KeyCabinet cabinet = Houses.withKeys("00000");
         cabinet.cut(0);
         for (int n = 0; n < 100; n++) {
             cabinet.pass(99);
@@ -225,83 +221,5 @@ final class CopyTests {
         c.refused(cabinet, "copy(1, -1)", INDEX, () -> cabinet.copy(1, -1));
         c.refused(cabinet, "copy(3, 0)", INDEX, () -> cabinet.copy(3, 0));
         c.refused(cabinet, "copy(-1, 0)", INDEX, () -> cabinet.copy(-1, 0));
-    }
-
-    private static void overdue(Checks c) {
-        KeyCabinet cabinet = withCopies();
-        cabinet.lend(0, 1, 1);
-        cabinet.lend(1, 1, 2);
-        cabinet.lend(2, 2, 1);
-        cabinet.pass(1);
-        c.same("overdue() on the day", cabinet.overdue(), 0);
-        cabinet.pass(1);
-        c.same("overdue() a day later", cabinet.overdue(), 0b101);
-        cabinet.pass(1);
-        c.same("overdue() two days later", cabinet.overdue(), 0b111);
-        cabinet.lose(0);
-        cabinet.giveBack(1);
-        c.same("overdue() without lost and given ones", cabinet.overdue(), 0b100);
-        cabinet.replace(0);
-        c.same("overdue() without void ones", cabinet.overdue(), 0);
-    }
-
-    private static void holderAt(Checks c) {
-        KeyCabinet cabinet = withCopies();
-        cabinet.pass(2);
-        cabinet.lend(0, 5, 1);
-        c.same("holderAt(0, 2), today", cabinet.holderAt(0, 2), 5);
-        c.same("holderAt(0, 1)", cabinet.holderAt(0, 1), -1);
-        cabinet.pass(3);
-        c.same("holderAt(0, 5), overdue", cabinet.holderAt(0, 5), 5);
-        cabinet.giveBack(0);
-        c.same("holderAt(0, 5), given back", cabinet.holderAt(0, 5), -1);
-        c.same("holderAt(0, 4)", cabinet.holderAt(0, 4), 5);
-        c.same("holderAt(0, 0)", cabinet.holderAt(0, 0), -1);
-        c.same("holderAt(1, 3), of another copy", cabinet.holderAt(1, 3), -1);
-        c.refused(cabinet, "holderAt(0, 6)", BAD, () -> cabinet.holderAt(0, 6));
-        c.refused(cabinet, "holderAt(0, -1)", BAD, () -> cabinet.holderAt(0, -1));
-        c.refused(cabinet, "holderAt(3, 0)", INDEX, () -> cabinet.holderAt(3, 0));
-        c.refused(cabinet, "holderAt(-1, 0)", INDEX, () -> cabinet.holderAt(-1, 0));
-        c.refused(cabinet, "holderAt(3, 6)", INDEX, () -> cabinet.holderAt(3, 6));
-    }
-
-    private static void holderAtLoans(Checks c) {
-        KeyCabinet cabinet = withCopies();
-        for (int time = 0; time < 8; time++) {
-            cabinet.lend(0, time, 9);
-            if (time % 2 == 1) {
-                cabinet.pass(1);
-            }
-            cabinet.giveBack(0);
-        }
-        for (int day = 0; day < 4; day++) {
-            c.same("holderAt(0, " + day + ")", cabinet.holderAt(0, day), 2 * day + 1);
-        }
-        c.same("holderAt(0, 4)", cabinet.holderAt(0, 4), -1);
-        cabinet.lend(0, 2, 1);
-        cabinet.pass(9);
-        cabinet.lose(0);
-        c.same("holderAt(0, 12)", cabinet.holderAt(0, 12), 2);
-        c.same("holderAt(0, 13), lost", cabinet.holderAt(0, 13), -1);
-        cabinet.find(0);
-        c.same("holderAt(0, 13), found", cabinet.holderAt(0, 13), -1);
-    }
-
-    private static void holderAtLast(Checks c) {
-        KeyCabinet cabinet = PlanTests.withKeys("00000");
-        for (int copy = 0; copy < 24; copy++) {
-            cabinet.cut(0);
-        }
-        for (int time = 0; time < 9; time++) {
-            cabinet.lend(23, time % 8, 1);
-            cabinet.pass(2);
-            cabinet.giveBack(23);
-            cabinet.pass(1);
-        }
-        for (int day = 0; day < 27; day++) {
-            int due = day % 3 == 2 ? -1 : day / 3 % 8;
-            c.same("holderAt(23, " + day + ")", cabinet.holderAt(23, day), due);
-        }
-        c.same("holderAt(23, 27)", cabinet.holderAt(23, 27), -1);
     }
 }

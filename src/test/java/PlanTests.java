@@ -1,4 +1,4 @@
-/** Promises 1 to 16: keys, doors and pins. */
+/** Promises 1 to 15: keys, doors and pins. */
 final class PlanTests {
     private static final Class<IllegalArgumentException> BAD = IllegalArgumentException.class;
     private static final Class<IllegalStateException> STATE = IllegalStateException.class;
@@ -25,36 +25,6 @@ final class PlanTests {
         checks.test("promise 13: codes", PlanTests::codes);
         checks.test("promise 14: isAbove", PlanTests::isAbove);
         checks.test("promise 15: work", PlanTests::work);
-        checks.test("promise 16: replace", PlanTests::replace);
-        checks.test("promise 16: replace takes the fewest strays", PlanTests::replaceStrays);
-        checks.test("promise 16: replace counts its own strays", PlanTests::replaceOwnStrays);
-        checks.test("promise 16: replace takes the least work", PlanTests::replaceWork);
-        checks.test("promise 16: replace adds the work at all doors", PlanTests::replaceAllWork);
-        checks.test("promise 16: replace puts strays before work", PlanTests::replaceOrder);
-        checks.test("promise 16: replace finds none", PlanTests::replaceNone);
-        checks.test("promise 16: replace makes copies void", PlanTests::replaceCopies);
-    }
-
-    /** A cabinet with keys of these codes, told by their digits. */
-    static KeyCabinet withKeys(String... codes) {
-        KeyCabinet cabinet = new KeyCabinet();
-        for (String code : codes) {
-            cabinet.addKey(number(code));
-        }
-        return cabinet;
-    }
-
-    static int number(String code) {
-        return Integer.parseInt(code, 4);
-    }
-
-    /** Key 2 (00110) strays at door 0, whose rights are keys 0 and 1. */
-    static KeyCabinet withStray() {
-        KeyCabinet cabinet = withKeys("00100", "00010", "00110");
-        cabinet.addDoor(0b011);
-        cabinet.addDoor(0b100);
-        cabinet.addDoor(0b000);
-        return cabinet;
     }
 
     private static void newObject(Checks c) {
@@ -101,7 +71,7 @@ final class PlanTests {
     }
 
     private static void addDoor(Checks c) {
-        KeyCabinet cabinet = withKeys("01230", "33333");
+        KeyCabinet cabinet = Houses.withKeys("01230", "33333");
         c.same("addDoor(0)", cabinet.addDoor(0), 0);
         c.same("addDoor(3)", cabinet.addDoor(3), 1);
         c.same("addDoor(2)", cabinet.addDoor(2), 2);
@@ -130,7 +100,7 @@ final class PlanTests {
     }
 
     private static void setRights(Checks c) {
-        KeyCabinet cabinet = withKeys("00000", "11111");
+        KeyCabinet cabinet = Houses.withKeys("00000", "11111");
         cabinet.addDoor(1);
         c.same("setRights(0, 3)", cabinet.setRights(0, 3), 1);
         c.same("pins(0, 4)", cabinet.pins(0, 4), 3);
@@ -148,7 +118,7 @@ final class PlanTests {
     }
 
     private static void keyCount(Checks c) {
-        KeyCabinet cabinet = withKeys("00000", "11111");
+        KeyCabinet cabinet = Houses.withKeys("00000", "11111");
         c.same("keyCount()", cabinet.keyCount(), 2);
         cabinet.addDoor(0);
         c.same("keyCount() after addDoor", cabinet.keyCount(), 2);
@@ -157,7 +127,7 @@ final class PlanTests {
     }
 
     private static void doorCount(Checks c) {
-        KeyCabinet cabinet = withKeys("00000", "11111", "22222");
+        KeyCabinet cabinet = Houses.withKeys("00000", "11111", "22222");
         c.same("doorCount()", cabinet.doorCount(), 0);
         cabinet.addDoor(0);
         cabinet.addDoor(5);
@@ -165,7 +135,7 @@ final class PlanTests {
     }
 
     private static void code(Checks c) {
-        KeyCabinet cabinet = withKeys("32101");
+        KeyCabinet cabinet = Houses.withKeys("32101");
         c.same("code(0)", cabinet.code(0), 913);
         c.refused(cabinet, "code(1)", INDEX, () -> cabinet.code(1));
         c.refused(cabinet, "code(-1)", INDEX, () -> cabinet.code(-1));
@@ -173,7 +143,7 @@ final class PlanTests {
     }
 
     private static void pins(Checks c) {
-        KeyCabinet cabinet = withKeys("01232", "03132", "30001");
+        KeyCabinet cabinet = Houses.withKeys("01232", "03132", "30001");
         cabinet.addDoor(0b011);
         cabinet.addDoor(0);
         int[] due = {1, 2 + 8, 4 + 2, 8, 4};
@@ -188,7 +158,7 @@ final class PlanTests {
     }
 
     private static void opens(Checks c) {
-        KeyCabinet cabinet = withStray();
+        KeyCabinet cabinet = Houses.withStray();
         c.same("opens(0, 0)", cabinet.opens(0, 0), true);
         c.same("opens(2, 0), a stray", cabinet.opens(2, 0), true);
         c.same("opens(0, 1)", cabinet.opens(0, 1), false);
@@ -201,18 +171,18 @@ final class PlanTests {
     }
 
     private static void openers(Checks c) {
-        KeyCabinet cabinet = withStray();
+        KeyCabinet cabinet = Houses.withStray();
         c.same("openers(0)", cabinet.openers(0), 7);
         c.same("openers(1)", cabinet.openers(1), 4);
         c.same("openers(2)", cabinet.openers(2), 0);
-        cabinet.addKey(number("00000"));
+        cabinet.addKey(Houses.number("00000"));
         c.same("openers(0) after a key came that strays", cabinet.openers(0), 15);
         c.refused(cabinet, "openers(3)", INDEX, () -> cabinet.openers(3));
         c.refused(cabinet, "openers(-1)", INDEX, () -> cabinet.openers(-1));
     }
 
     private static void doors(Checks c) {
-        KeyCabinet cabinet = withStray();
+        KeyCabinet cabinet = Houses.withStray();
         c.same("doors(0)", cabinet.doors(0), 1);
         c.same("doors(1)", cabinet.doors(1), 1);
         c.same("doors(2)", cabinet.doors(2), 3);
@@ -221,18 +191,18 @@ final class PlanTests {
     }
 
     private static void strays(Checks c) {
-        KeyCabinet cabinet = withStray();
+        KeyCabinet cabinet = Houses.withStray();
         c.same("strays()", cabinet.strays(), 1);
         cabinet.addDoor(0b011);
         c.same("strays() with another such door", cabinet.strays(), 2);
-        cabinet.addKey(number("00000"));
+        cabinet.addKey(Houses.number("00000"));
         c.same("strays() with another such key", cabinet.strays(), 4);
         cabinet.setRights(0, 0b111);
         c.same("strays() when one got the right", cabinet.strays(), 3);
     }
 
     private static void codes(Checks c) {
-        KeyCabinet cabinet = withKeys("01232", "03132", "30001");
+        KeyCabinet cabinet = Houses.withKeys("01232", "03132", "30001");
         cabinet.addDoor(0b011);
         cabinet.addDoor(0b001);
         cabinet.addDoor(0);
@@ -243,18 +213,18 @@ final class PlanTests {
         c.same("codes(3)", cabinet.codes(3), 2 * 3 * 3 * 2 * 2);
         c.refused(cabinet, "codes(4)", INDEX, () -> cabinet.codes(4));
         c.refused(cabinet, "codes(-1)", INDEX, () -> cabinet.codes(-1));
-        KeyCabinet all = withKeys("00000", "11111", "22222", "33333");
+        KeyCabinet all = Houses.withKeys("00000", "11111", "22222", "33333");
         all.addDoor(15);
         c.same("codes of a door with all pins", all.codes(0), 1024);
     }
 
     private static void isAbove(Checks c) {
-        KeyCabinet cabinet = withStray();
+        KeyCabinet cabinet = Houses.withStray();
         c.same("isAbove(2, 0)", cabinet.isAbove(2, 0), true);
         c.same("isAbove(0, 2)", cabinet.isAbove(0, 2), false);
         c.same("isAbove(0, 1), the same doors", cabinet.isAbove(0, 1), false);
         c.same("isAbove(2, 2)", cabinet.isAbove(2, 2), false);
-        cabinet.addKey(number("33333"));
+        cabinet.addKey(Houses.number("33333"));
         c.same("isAbove(0, 3), which opens nothing", cabinet.isAbove(0, 3), true);
         cabinet.setRights(2, 0b1000);
         c.same("isAbove(2, 3), other doors", cabinet.isAbove(2, 3), false);
@@ -265,7 +235,7 @@ final class PlanTests {
     }
 
     private static void work(Checks c) {
-        KeyCabinet cabinet = withKeys("00000", "00011");
+        KeyCabinet cabinet = Houses.withKeys("00000", "00011");
         cabinet.addDoor(0);
         c.same("work() after a door without rights", cabinet.work(), 0);
         cabinet.addDoor(0b11);
@@ -276,111 +246,9 @@ final class PlanTests {
         c.same("work() after 2 went out and 2 came in", cabinet.work(), 13);
         cabinet.setRights(1, 0b10);
         c.same("work() after the same rights", cabinet.work(), 13);
-        cabinet.addKey(number("33333"));
+        cabinet.addKey(Houses.number("33333"));
         c.same("work() after a key", cabinet.work(), 13);
-        c.same("replace(1)", cabinet.replace(1), number("00001"));
+        c.same("replace(1)", cabinet.replace(1), Houses.number("00001"));
         c.same("work() after a digit changed", cabinet.work(), 15);
-    }
-
-    private static void replace(Checks c) {
-        KeyCabinet cabinet = withKeys("00000", "00001");
-        cabinet.addDoor(0b01);
-        c.same("replace(0)", cabinet.replace(0), number("00002"));
-        c.same("code(0)", cabinet.code(0), 2);
-        c.same("pins(0, 4)", cabinet.pins(0, 4), 4);
-        c.same("opens(0, 0)", cabinet.opens(0, 0), true);
-        c.same("replace(1) of a key without doors", cabinet.replace(1), 0);
-        c.refused(cabinet, "replace(2)", INDEX, () -> cabinet.replace(2));
-        c.refused(cabinet, "replace(-1)", INDEX, () -> cabinet.replace(-1));
-    }
-
-    /** Keys 2 and 3 stray at every code of less work, such as 00001, and of smaller codes too. */
-    private static void replaceStrays(Checks c) {
-        KeyCabinet cabinet = withKeys("00000", "11111", "01111", "10111");
-        cabinet.addDoor(0b0011);
-        c.same("strays()", cabinet.strays(), 2);
-        c.same("replace(0)", cabinet.replace(0), number("11000"));
-        c.same("strays() then", cabinet.strays(), 0);
-        c.same("work() then", cabinet.work(), 12);
-    }
-
-    /** 00001 is taken, and with 00002 the key itself would stray at door 1. */
-    private static void replaceOwnStrays(Checks c) {
-        KeyCabinet cabinet = withKeys("00000", "00001", "00012");
-        cabinet.addDoor(0b001);
-        cabinet.addDoor(0b110);
-        c.same("replace(0)", cabinet.replace(0), number("00003"));
-        c.same("strays()", cabinet.strays(), 0);
-    }
-
-    /** 00003 makes use of a pin that stays: less work than 00000 would make. */
-    private static void replaceWork(Checks c) {
-        KeyCabinet cabinet = withKeys("00001", "33323");
-        cabinet.addDoor(0b01);
-        cabinet.addDoor(0b11);
-        c.same("work()", cabinet.work(), 15);
-        c.same("replace(0)", cabinet.replace(0), number("00003"));
-        c.same("work() then", cabinet.work(), 18);
-    }
-
-    /** A pin that goes out costs one; that others stay costs nothing. */
-    private static void replaceAllWork(Checks c) {
-        KeyCabinet cabinet = withKeys("00000", "33333");
-        cabinet.addDoor(0b11);
-        c.same("replace(1)", cabinet.replace(1), number("03333"));
-        c.same("work()", cabinet.work(), 11);
-        KeyCabinet two = withKeys("33333", "00000");
-        two.addDoor(0b11);
-        two.addDoor(0b10);
-        c.same("replace(1) with two doors", two.replace(1), number("00003"));
-        c.same("work() with two doors", two.work(), 18);
-    }
-
-    /** Many codes make no stray; those of the least work of all come later, but make some. */
-    private static void replaceOrder(Checks c) {
-        KeyCabinet cabinet = withKeys("33333", "22222", "32222", "23222");
-        cabinet.addDoor(0b0011);
-        c.same("replace(0)", cabinet.replace(0), number("22333"));
-        c.same("work()", cabinet.work(), 12);
-    }
-
-    private static void replaceNone(Checks c) {
-        KeyCabinet cabinet = withStray();
-        int copy = cabinet.cut(2);
-        cabinet.lend(copy, 1, 1);
-        long before = cabinet.digest();
-        c.same("replace(2), whose old code strays", cabinet.replace(2), -1);
-        c.same("digest()", cabinet.digest(), before);
-        c.same("copy(0, 1)", cabinet.copy(copy, 1), 1);
-        cabinet.setRights(0, 0b111);
-        c.same("replace(2), whose pins others keep", cabinet.replace(2), -1);
-    }
-
-    private static void replaceCopies(Checks c) {
-        KeyCabinet cabinet = withKeys("00000", "11111");
-        cabinet.addDoor(0b01);
-        cabinet.addDoor(0b10);
-        for (int copy = 0; copy < 6; copy++) {
-            cabinet.cut(copy == 4 ? 1 : 0);
-        }
-        cabinet.lend(1, 5, 3);
-        cabinet.lend(3, 5, 3);
-        cabinet.lose(2);
-        cabinet.lend(4, 6, 9);
-        cabinet.pass(1);
-        cabinet.giveBack(3);
-        c.same("replace(0)", cabinet.replace(0), number("00001"));
-        for (int copy = 0; copy < 6; copy++) {
-            c.same("copy(" + copy + ", 1)", cabinet.copy(copy, 1), copy == 4 ? 1 : 3);
-            c.same("copy(" + copy + ", 2)", cabinet.copy(copy, 2), copy == 4 ? 6 : -1);
-            c.same("copy(" + copy + ", 3)", cabinet.copy(copy, 3), copy == 4 ? 9 : -1);
-        }
-        c.same("copy(1, 4)", cabinet.copy(1, 4), 1);
-        c.same("risk()", cabinet.risk(), 0);
-        c.same("reach(5)", cabinet.reach(5), 0);
-        c.same("holderAt(1, 0)", cabinet.holderAt(1, 0), 5);
-        c.same("holderAt(1, 1)", cabinet.holderAt(1, 1), -1);
-        int copy = cabinet.cut(0);
-        c.same("copy(6, 1) of a copy cut since", cabinet.copy(copy, 1), 0);
     }
 }

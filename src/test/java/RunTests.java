@@ -2,8 +2,10 @@ import java.util.List;
 
 /** Long runs of calls, right and wrong ones, answered by the class as by SlowCabinet. */
 final class RunTests {
-    private static final int RUNS = 600;
+    private static final int RUNS = 900;
+    /** An object is used for so many calls; a step makes four at most, and digest() is the last. */
     private static final int CALLS = 512;
+    private static final int MOST_IN_STEP = 5;
     private static final int[] STRANGE = {-1, 8, 24, 100, Integer.MIN_VALUE, Integer.MAX_VALUE};
 
     /** How often each kind of call comes, in the order of the switch in step. */
@@ -18,6 +20,7 @@ final class RunTests {
     private final SlowCabinet slow = new SlowCabinet();
     private final Checks checks;
     private final String name;
+    private int calls = 0;
     private long seed;
     /** Codes of few digits stray more often. */
     private final int digits;
@@ -46,7 +49,7 @@ final class RunTests {
         for (int weight : weights) {
             all += weight;
         }
-        for (int n = 0; n < CALLS - 1; n++) {
+        while (calls < CALLS - MOST_IN_STEP) {
             int left = upTo(all);
             int kind = 0;
             while (left >= weights[kind]) {
@@ -152,6 +155,7 @@ final class RunTests {
                 same("work()", cabinet::work, slow::work);
                 break;
             default:
+                same("strays()", cabinet::strays, slow::strays);
                 break;
         }
     }
@@ -190,11 +194,13 @@ final class RunTests {
                 same("digest()", cabinet::digest, slow::digest);
                 break;
             default:
+                same("overdue()", cabinet::overdue, slow::overdue);
                 break;
         }
     }
 
     private void same(String call, Checks.Call got, Checks.Call due) {
+        calls++;
         checks.same(name + ": " + call, Checks.outcome(got), Checks.outcome(due));
     }
 
