@@ -19,6 +19,8 @@ final class AllTests {
         LimitTests.addTo(checks);
         OrderTests.addTo(checks);
         RefusalTests.addTo(checks);
+        LongUseTests.addTo(checks);
+        ReadmeTests.addTo(checks);
         RunTests.addTo(checks);
         if (!checks.report()) {
             System.exit(1);

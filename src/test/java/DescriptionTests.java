@@ -9,6 +9,8 @@ final class DescriptionTests {
         checks.test("'if each of its digits is among the pins'", DescriptionTests::eachDigit);
         checks.test("'so it opens each door of whose rights it is'", DescriptionTests::byRight);
         checks.test("'it strays at a door ..'", DescriptionTests::strays);
+        checks.test("'some keys open more doors than they should': in all answers",
+                DescriptionTests::openedByStraying);
         checks.test("'the pins change with' rights", DescriptionTests::pinsWithRights);
         checks.test("the work is of 'pins that came in or went out'", DescriptionTests::work);
         checks.test("'for a new door, all its pins come in'", DescriptionTests::workOfNewDoor);
@@ -92,6 +94,32 @@ final class DescriptionTests {
         c.same("strays() when none fits", cabinet.strays(), 24);
     }
 
+    /** Key 2 has the right to no door, and strays at doors 0 and 1; key 3 opens none. */
+    private static void openedByStraying(Checks c) {
+        KeyCabinet cabinet = Houses.withKeys("00100", "00010", "00110", "33333");
+        cabinet.addDoor(0b0011);
+        cabinet.addDoor(0b0011);
+        cabinet.addDoor(0b0001);
+        Houses.cutAll(cabinet, 2, 2, 3);
+        c.same("strays()", cabinet.strays(), 2);
+        c.same("doors(2)", cabinet.doors(2), 0b011);
+        c.same("isAbove(2, 3)", cabinet.isAbove(2, 3), true);
+        c.same("isAbove(0, 2)", cabinet.isAbove(0, 2), true);
+        c.same("isAbove(1, 2), the same doors", cabinet.isAbove(1, 2), false);
+        c.same("suggest(5, 3)", cabinet.suggest(5, 0b011), 0b001);
+        cabinet.lend(0, 5, 1);
+        c.same("reach(5)", cabinet.reach(5), 0b011);
+        c.same("exposure() of one lent", cabinet.exposure(), 2.0 / 3.0);
+        c.same("lose(0)", cabinet.lose(0), 0b011);
+        c.same("lose(1)", cabinet.lose(1), 0b011);
+        c.same("risk()", cabinet.risk(), 0b011);
+        c.same("exposure() of lost ones", cabinet.exposure(), 2.0 / 3.0);
+        c.same("find(0)", cabinet.find(0), 0b011);
+        cabinet.setRights(1, 0b0001);
+        c.same("risk() when it strays there no more", cabinet.risk(), 0b001);
+        c.same("find(1)", cabinet.find(1), 0);
+    }
+
     private static void pinsWithRights(Checks c) {
         KeyCabinet cabinet = Houses.withKeys("00000", "01230");
         cabinet.addDoor(0b01);
@@ -161,6 +189,10 @@ final class DescriptionTests {
         }
         cabinet.addDoor(0);
         c.same("codes of a door without rights", cabinet.codes(6), 0);
+        KeyCabinet full = Houses.sized(8, 0, 0);
+        full.addDoor(0b11111111);
+        c.same("openers(0) of 8 keys", full.openers(0), 255);
+        c.same("codes(0), those of the 8 keys", full.codes(0), 8);
     }
 
     private static void above(Checks c) {

@@ -50,6 +50,15 @@ final class FaceTests {
             "double exposure()",
             "long digest()");
 
+    /** What LANGUAGE.md lists. */
+    private static final List<String> LIBRARY = List.of("String", "StringBuilder", "ArrayList",
+            "List", "Integer", "Long", "Math", "Iterator", "Iterable", "Comparable", "System",
+            "Arrays", "IllegalStateException", "IllegalArgumentException",
+            "IndexOutOfBoundsException", "ArithmeticException", "UnsupportedOperationException",
+            "NoSuchElementException", "RuntimeException");
+    private static final List<String> FUNCTIONS = List.of("compare", "max", "min", "abs",
+            "bitCount", "floorDiv", "floorMod", "arraycopy", "copyOf", "copyOfRange", "fill");
+
     private FaceTests() {
     }
 
@@ -60,6 +69,8 @@ final class FaceTests {
         checks.test("language: static fields are constants", FaceTests::staticFields);
         checks.test("language: parameters and fields are few", FaceTests::sizes);
         checks.test("language: nothing that it leaves out", FaceTests::words);
+        checks.test("language: the library that it lists, and no more", FaceTests::library);
+        checks.test("language: methods are short, classes few", FaceTests::lengths);
     }
 
     private static void constructor(Checks c) {
@@ -133,10 +144,7 @@ final class FaceTests {
 
     /** Words and signs that LANGUAGE.md leaves out, and answers to what the machine throws. */
     private static void words(Checks c) {
-        String code = source()
-                .replaceAll("(?s)/\\*.*?\\*/", " ")
-                .replaceAll("//[^\n]*", " ")
-                .replaceAll("\"[^\"\n]*\"", " ");
+        String code = code();
         c.same("the source was found", code.contains("public final class KeyCabinet"), true);
         List<String> left = List.of("\\b(package|finally|synchronized|assert)\\b", "::",
                 "\\bstatic\\s*\\{", "\\bhashCode\\b", "\\b\\w+Exact\\b", "\\bgetMessage\\b",
@@ -146,6 +154,54 @@ final class FaceTests {
         for (String part : left) {
             c.same(part + " is in the source", Pattern.compile(part).matcher(code).find(), false);
         }
+    }
+
+    /** All classes that are named, and what is called by the name of a class (rules 4 and 6). */
+    private static void library(Checks c) {
+        String code = code();
+        TreeSet<String> classes = found("\\b[A-Z]\\w*[a-z]\\w*", code);
+        classes.removeAll(LIBRARY);
+        for (Class<?> each : classes()) {
+            classes.remove(each.getSimpleName());
+        }
+        c.same("other classes", classes, new TreeSet<String>());
+        TreeSet<String> calls = found("\\b(Integer|Long|Math|System|Arrays)\\.\\w+", code);
+        calls.removeIf(call -> FUNCTIONS.contains(call.substring(call.indexOf('.') + 1)));
+        c.same("other functions", calls, new TreeSet<String>());
+        c.same("other imports", found("\\bimport (?!java\\.util\\.).*", code), new TreeSet<String>());
+        c.same("signs beyond 127", found("[^\\x00-\\x7f]", source()), new TreeSet<String>());
+    }
+
+    /** A method starts and ends at the same indent, four or eight signs (rule 11). */
+    private static void lengths(Checks c) {
+        String[] lines = source().split("\n");
+        for (String indent : List.of("    ", "        ")) {
+            int start = 0;
+            for (int line = 0; line < lines.length; line++) {
+                if (lines[line].matches(indent + "\\w.*")) {
+                    start = line;
+                }
+                boolean isMethod = lines[start].contains("(");
+                if (lines[line].equals(indent + "}") && isMethod) {
+                    c.same(lines[start] + " is short", line - start < 60, true);
+                }
+            }
+        }
+        c.same("at most 12 classes", classes().size() <= 12, true);
+    }
+
+    private static TreeSet<String> found(String pattern, String text) {
+        TreeSet<String> all = new TreeSet<>();
+        Pattern.compile(pattern).matcher(text).results().forEach(part -> all.add(part.group()));
+        return all;
+    }
+
+    /** The source without comments and texts. */
+    private static String code() {
+        return source()
+                .replaceAll("(?s)/\\*.*?\\*/", " ")
+                .replaceAll("//[^\n]*", " ")
+                .replaceAll("\"[^\"\n]*\"", " ");
     }
 
     private static String source() {
